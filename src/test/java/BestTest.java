@@ -34,6 +34,10 @@ public final class BestTest {
         x.thing(1, 0, 0);
         x.thing(1, 13, 2);
         Due.is("tame where it is quickest", x.tame(0, 1), 0);
+        // A driver is at 40 on stretch 0, at 20 in narrowings and at 32 at the end.
+        x.turn(0, 0);
+        Due.is("tame the first stretch", x.tame(0, 1), 0);
+        x.turn(0, 1);
         x.thing(1, 0, 1);
         x.thing(1, 5, 0);
         x.thing(1, 6, 0);
@@ -162,6 +166,18 @@ public final class BestTest {
         // A bump in place of a narrowing; those in 2 leave whatever comes, unless 0 and 1 are worse.
         Due.is("drives", x.drives(7), 0);
         Due.is("all stays", x.stretch(0, 7, 0) * 100 + x.stretch(1, 7, 0) * 10 + x.stretch(2, 7, 0), 221);
+        // Paint that ends in two days calls nobody in one; on the day it ends one leaves whatever comes.
+        BumpStreets y = new BumpStreets();
+        y.thing(1, 0, 4);
+        y.days(19);
+        y.driver(0);
+        y.set(0, 2, 2);
+        y.thing(2, 0, 3);
+        y.thing(0, 0, 1);
+        Due.is("leaves in two days", y.leaves(0), 2);
+        Due.is("drives out of 2 alone", y.drives(5), 2);
+        y.days(1);
+        Due.is("drives out of 2 anyhow", y.drives(5), 0);
         Due.is("drives BEYOND", x.drives(20), Due.BEYOND);
         Due.is("drives BEYOND", x.drives(-1), Due.BEYOND);
     }

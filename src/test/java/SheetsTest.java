@@ -16,8 +16,10 @@ public final class SheetsTest {
         Due.is("sheet", x.sheet(3, 64, 0), 0);
         Due.is("sheet", x.sheet(1, 16, 1), 1);
         x.write(0, 39, 7);
+        x.write(0, 0, 7);
         Due.is("sheet anew", x.sheet(0, 16, 40), 40);
         Due.is("all 0", x.write(0, 39, 5), 0);
+        Due.is("all 0", x.write(0, 0, 5), 0);
         Due.is("sheet gone", x.sheet(0, 0, 40), 0);
         Due.is("MISSING", x.write(0, 0, 0), Due.MISSING);
         Due.is("BEYOND sheet", x.sheet(-1, 8, 1), Due.BEYOND);

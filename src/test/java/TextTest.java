@@ -6,6 +6,8 @@ public final class TextTest {
         faults();
         faultsChangeNothing();
         manyDrivers();
+        whatWasThereBefore();
+        fullTape();
         Due.end();
     }
 
@@ -71,6 +73,9 @@ public final class TextTest {
         Due.is("wish", y.of(0, 1), 10);
         Due.is("street", y.of(0, 2), 2);
         Due.is("wish", y.of(1, 1), 80);
+        Due.is("town", Due.town(y, "bus in 0;clear 0 9;bump 2 9"), 3);
+        Due.is("street", y.of(2, 2), 0);
+        Due.is("bump", y.stretch(2, 9, 0), 1);
     }
 
     private static void fault(String text, int place) {
@@ -136,6 +141,17 @@ public final class TextTest {
         fault("bus in 1 in 2", 9);
         fault("bus 40", 4);
         fault("bus bus", 4);
+        fault("cus", 0);
+        fault("fump 0 1", 0);
+        fault("bus fish 40", 4);
+        fault("bus an 1", 4);
+        fault("busz", 0);
+        fault("zbus", 0);
+        fault("abus", 0);
+        fault("bus`", 3);
+        fault("bus{", 3);
+        fault("high 2/", 6);
+        fault("high 2:", 6);
         fault("wish 40", 0);
         fault("in 2", 0);
         fault("buswish 40", 0);
@@ -165,5 +181,40 @@ public final class TextTest {
         Due.is("none came", y.count(0), 2);
         Due.is("six more", Due.town(y, "bus;bus;bus;bus;bus;bus"), 6);
         Due.is("eight", y.count(0), 8);
+    }
+
+    /** Bytes of an earlier text are no part of a shorter one. */
+    private static void whatWasThereBefore() {
+        BumpStreets x = new BumpStreets();
+        Due.feed(x, "bump 0 19;high 44");
+        x.wipe();
+        Due.is("a number ends with the tape", Due.town(x, "bump 0 1"), 1);
+        Due.is("stretch 1", x.street(0, 0), 2);
+        Due.feed(x, "buses  ");
+        x.wipe();
+        Due.is("a word ends with the tape", Due.town(x, "bus"), 1);
+        Due.feed(x, "high 2   ");
+        x.wipe();
+        Due.is("the tape ends before old blanks", Due.town(x, "high "), -1 - 5);
+    }
+
+    private static void fullTape() {
+        StringBuilder blanks = new StringBuilder();
+        for (int i = 0; i < 114; i++) {
+            blanks.append(' ');
+        }
+        String[] texts = {"high 5", "  bus ", "bus   ", "   bus", "racer;", "  bump", "      "};
+        int[] due = {1, 1, 1, 1, -121, -121, -121};
+        for (int i = 0; i < texts.length; i++) {
+            BumpStreets x = new BumpStreets();
+            Due.is("town of 120 bytes with " + texts[i], Due.town(x, blanks + texts[i]), due[i]);
+        }
+        StringBuilder items = new StringBuilder("high 0001");
+        for (int i = 0; i < 15; i++) {
+            items.append(";high 2");
+        }
+        BumpStreets x = new BumpStreets();
+        Due.is("town of many items", Due.town(x, items + ";high3"), 17);
+        Due.is("high", x.now(1), 3);
     }
 }
