@@ -141,6 +141,10 @@ public final class TextTest {
         fault("bus in 1 in 2", 9);
         fault("bus 40", 4);
         fault("bus bus", 4);
+        fault("bump x 5", 5);
+        fault("bump 0 x", 7);
+        fault("bump ; 5", 5);
+        fault("bus in x", 7);
         fault("cus", 0);
         fault("fump 0 1", 0);
         fault("bus fish 40", 4);
