@@ -27,6 +27,7 @@ public final class BestEdgesTest {
         promise24noMoreThan();
         promise24theLeastOfSeveral();
         promise24from10to80();
+        promise24noneBut81();
         promise25beyond();
         promise25theLeastOfSeveral();
         promise25inPlaceOfWhatIsThere();
@@ -144,6 +145,9 @@ public final class BestEdgesTest {
         // A narrowing shakes nothing; of two bumps, both 4, the first.
         Edge.onlyTold("21: of two alike", () -> Scenes.told("driver;narrow 0 0;bump 0 8;bump 0 19"), 8, x -> x.clear(0, 0));
         Edge.onlyTold("21: of all alike", () -> Scenes.told("driver;sign 0 3;narrow 0 4;paint 0 9"), 3, x -> x.clear(0, 0));
+        Edge.onlyTold("21: the first one", () -> Scenes.told("driver;bump 0 0;narrow 0 7;sign 0 19"), 0, x -> x.clear(0, 0));
+        Edge.onlyTold("21: the last one", () -> Scenes.told("driver;sign 0 0;narrow 0 7;bump 0 19"), 19, x -> x.clear(0, 0));
+        Edge.onlyTold("21: the first of two alike", () -> Scenes.told("driver;bump 0 0;bump 0 19"), 0, x -> x.clear(0, 0));
         Edge.onlyTold("21: by nobody", () -> Scenes.told("bump 2 18;bump 2 19"), 18, x -> x.clear(2, 20));
     }
 
@@ -330,6 +334,13 @@ public final class BestEdgesTest {
         Edge.refused("24: not even 80", BestEdgesTest::onlyEighty, Due.NONE, x -> x.wish(0, 0, onlyEighty().takes(0, 0) - 1));
     }
 
+    /** Over a bump of 1 it is at 72 of 80 and would be at 73 of 81: 17 and 16, and 15 each behind it. */
+    private static void promise24noneBut81() {
+        String low = "driver;high 1;bump 0 0";
+        Edge.onlyTold("24: 17 and 15 each", () -> Scenes.told(low), 77, x -> x.wish(0, 0, 17 + 19 * 15));
+        Edge.refused("24: only 81 would do", () -> Scenes.told(low), Due.NONE, x -> x.wish(0, 0, 16 + 19 * 15));
+    }
+
     /** Narrowings all along: half of 80 is 40, of 79 is 39, which takes 31. */
     private static BumpStreets onlyEighty() {
         BumpStreets x = Scenes.one();
@@ -403,6 +414,11 @@ public final class BestEdgesTest {
     }
 
     private static void promise26allStreetsTogether() {
+        for (int street = 0; street < 3; street++) {
+            int s = street;
+            Edge.onlyTold("26: by street " + s + " alone", () -> Scenes.told("local;bus;sign " + s + " 19"), 1, x -> x.slowest());
+            Edge.onlyTold("26: by street " + s + " alone", () -> Scenes.told("bus;local;bump " + s + " 19"), 1, x -> x.slowest());
+        }
         // In 0 and 1 the bus is the quicker, in 2 by more the slower; in whichever street they go.
         BumpStreets x = Scenes.told("local;bus;bump 0 19;bump 1 19");
         Due.is("26: two bumps", x.slowest(), 0);

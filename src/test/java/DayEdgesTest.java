@@ -12,6 +12,7 @@ public final class DayEdgesTest {
         promise16eachOfEight();
         promise17beyond();
         promise17noDays();
+        promise17allAsItIs();
         promise17nothingChanges();
         promise17atTheLastDay();
         promise18beyond();
@@ -200,6 +201,33 @@ public final class DayEdgesTest {
     private static void promise17noDays() {
         Edge.onlyTold("17: no days", DayEdgesTest::bumpInItsStreet, 2, x -> x.on(0, 0));
         Edge.onlyTold("17: one day", DayEdgesTest::bumpInItsStreet, 0, x -> x.on(0, 1));
+    }
+
+    /** ON goes on with all as it is: with each driver's kind, wish and street, and each thing's age. */
+    private static void promise17allAsItIs() {
+        for (int d = 0; d < 8; d++) {
+            BumpStreets x = new BumpStreets();
+            for (int i = 0; i < 8; i++) {
+                x.driver(i == d ? 3 : 0);
+                x.set(i, 2, 2);
+            }
+            x.thing(2, 0, 3);
+            // A sign in its street: only the local stays.
+            for (int i = 0; i < 8; i++) {
+                Due.is("17: on 1 with local " + d, x.on(i, 1), i == d ? 2 : 0);
+            }
+        }
+        for (int place = 0; place < 60; place++) {
+            int street = place / 20;
+            BumpStreets x = Scenes.one();
+            x.set(0, 2, street);
+            x.thing(street, place % 20, 4);
+            x.days(20);
+            x.set(0, 2, street);
+            Due.is("17: paint of 20 days on " + place, x.on(0, 1), street);
+            x.thing(street, place % 20, 4);
+            Due.is("17: paint of no days on " + place, x.on(0, 1) != street ? 1 : 0, 1);
+        }
     }
 
     private static void promise17nothingChanges() {

@@ -3,6 +3,8 @@ public final class ImageEdgesTest {
     public static void main(String[] args) {
         promise36one();
         promise36allOfSection1();
+        promise36ofEight();
+        promise36ofAllStretches();
         promise36notTheRest();
         promise37none();
         promise37howManyDrivers();
@@ -51,6 +53,40 @@ public final class ImageEdgesTest {
             x.thing(0, 0, 2);
             return x.days(100);
         });
+    }
+
+    /** Of the last of eight as well as of the first. */
+    private static void promise36ofEight() {
+        for (int d = 0; d < 8; d++) {
+            BumpStreets x = Scenes.crowded();
+            x.turn(d, 2);
+            x.set(d, 1, 31);
+            x.set(d, 2, 1);
+            x.image();
+            x.turn(d, 5);
+            x.set(d, 1, 71);
+            x.set(d, 2, 2);
+            x.undo();
+            Due.is("36: kind of " + d, x.of(d, 0), 2);
+            Due.is("36: wish of " + d, x.of(d, 1), 31);
+            Due.is("36: street of " + d, x.of(d, 2), 1);
+        }
+    }
+
+    /** Of the last stretch of the last street as well as of the first. */
+    private static void promise36ofAllStretches() {
+        for (int place = 0; place < 60; place++) {
+            int street = place / 20;
+            int stretch = place % 20;
+            BumpStreets x = new BumpStreets();
+            x.thing(street, stretch, 4);
+            x.days(3);
+            x.image();
+            x.thing(street, stretch, 1);
+            x.undo();
+            Due.is("36: thing on " + place, x.stretch(street, stretch, 0), 4);
+            Due.is("36: age on " + place, x.stretch(street, stretch, 1), 3);
+        }
     }
 
     private interface Change {

@@ -255,6 +255,13 @@ public final class StreetEdgesTest {
         // A driver at 16: 4 at each.
         Due.is("5: shaken by two", x.street(1, 3), 22);
         Due.is("5: shaken in another", x.street(2, 3), 0);
+        BumpStreets y = new BumpStreets();
+        y.thing(2, 0, 1);
+        for (int d = 0; d < 8; d++) {
+            y.driver(0);
+            y.set(d, 2, 2);
+            Due.is("5: shaken by " + (d + 1), y.street(2, 3), 4 * (d + 1));
+        }
     }
 
     private static void promise6beyond() {
