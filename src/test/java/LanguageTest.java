@@ -6,7 +6,9 @@ import java.lang.reflect.Modifier;
 import java.nio.file.Files;
 import java.nio.file.Path;
 import java.util.HashSet;
+import java.util.Map;
 import java.util.Set;
+import java.util.TreeMap;
 import java.util.regex.Matcher;
 import java.util.regex.Pattern;
 
@@ -33,6 +35,7 @@ public final class LanguageTest {
         }
         newOnlyInConstructors(code);
         shortMethods(code);
+        shallowCalls(code);
         Due.end();
     }
 
@@ -103,5 +106,39 @@ public final class LanguageTest {
             since = line.matches("^ {4,8}\\}$") || line.isBlank() ? 0 : since + 1;
             Due.is("lines of a method", since <= 60 ? 1 : 0, 1);
         }
+    }
+
+    /** Rule 11: at most eight calls stand open at once, those of the library among them; and none calls itself. */
+    private static void shallowCalls(String code) {
+        Map<String, Set<String>> calls = new TreeMap<>();
+        Pattern head = Pattern.compile("^( {4,8})(?:public |private |static |final )*[\\w\\[\\]]+ (\\w+)\\(([^)]*)\\) \\{$");
+        Pattern call = Pattern.compile("\\b(?!if\\b|for\\b|while\\b|switch\\b|return\\b)(\\w+)\\(");
+        String name = null;
+        String end = "";
+        for (String line : code.split("\n")) {
+            Matcher m = head.matcher(line);
+            if (m.find()) {
+                name = m.group(2);
+                end = m.group(1) + "}";
+                Due.is("one method " + name, calls.put(name, new HashSet<>()) == null ? 1 : 0, 1);
+                Due.is("parameters of " + name, m.group(3).split(",").length <= 7 ? 1 : 0, 1);
+            } else if (line.equals(end)) {
+                name = null;
+            } else if (name != null) {
+                call.matcher(line).results().map(found -> found.group(1)).forEach(calls.get(name)::add);
+            }
+        }
+        for (String one : calls.keySet()) {
+            Due.is("calls under " + one, depth(calls, one, 0) <= 8 ? 1 : 0, 1);
+        }
+        Due.is("methods are found", calls.size() > 39 ? 1 : 0, 1);
+    }
+
+    private static int depth(Map<String, Set<String>> calls, String name, int above) {
+        int deepest = 0;
+        for (String under : calls.getOrDefault(name, Set.of())) {
+            deepest = above > 20 ? 99 : Math.max(deepest, depth(calls, under, above + 1));
+        }
+        return 1 + deepest;
     }
 }
